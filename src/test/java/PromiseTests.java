@@ -375,10 +375,11 @@ public final class PromiseTests {
             }
             for (int j = 0; j < 8; j++) {
                 int p = (m + 333 * j) % 1000;
-                while (x.seat(2, p) < 0 || jump.contains(x.seat(2, p))) p = (p + 1) % 1000;
+                for (int i = 0; i < 1000 && (x.seat(2, p) < 0 || jump.contains(x.seat(2, p))); i++) p = (p + 1) % 1000;
                 jump.add(x.seat(2, p));
             }
-            for (int i = 0; i < 8; i++) {
+            due("all are seated", round.size(), 8);
+            for (int i = 0; i < round.size(); i++) {
                 due("ROUND", x.picked(0, m, i), round.get(i));
                 due("JUMP", x.picked(2, m, i), jump.get(i));
                 if (i == 0) continue;
@@ -741,6 +742,7 @@ public final class PromiseTests {
         due("noon(0, 30, 10)", x.noon(0, 30, 10), 3);
         due("noon(0, 31, 10)", x.noon(0, 31, 10), -2);
         due("noon(0, 9999, 3333)", x.noon(0, 9999, 3333), 3);
+        due("noon(0, 9999, 9999)", x.noon(0, 9999, 9999), 1);
         due("noon(0, 10000, 1)", x.noon(0, 10000, 1), -1);
         due("noon(0, -1, 1)", x.noon(0, -1, 1), -1);
         due("noon(0, 1, 10000)", x.noon(0, 1, 10000), -1);
@@ -1065,7 +1067,8 @@ public final class PromiseTests {
     private static void namesFromRows() {
         SeatsRound x = house(0);
         fill(x, 0, 1, 'a', 2, 'b', 200, 1, 'a', 6, '1', '2', '3', '4', '5', '6', 3, 'x', 'y');
-        due("two of them", x.names(0, 0, 2), 2);
+        due("one of them", x.names(0, 0, 1), 1);
+        due("two of them", x.names(0, 0, 2), 1);
         due("as by the tape", name(x, "b" + (char) 200), 1);
         due("one that there is, and one more", x.names(0, 5, 2), 1);
         due("within a NAME it ends", x.names(0, 14, 1), 0);
@@ -1083,6 +1086,11 @@ public final class PromiseTests {
         due("ahead of the row", x.names(0, -1, 1), 0);
         due("far behind", x.names(0, Integer.MAX_VALUE, 1), 0);
         due("the row is missing", x.names(1, 0, 1), 0);
+        x.row(3, 0, 60);
+        x.put(3, 58, 1);
+        x.put(3, 59, 1);
+        due("up to the end of the longest row", x.names(3, 58, 2), 1);
+        due("behind the end of the longest row", x.names(3, 60, 1), 0);
         due("names(0, 0, 0)", x.names(0, 0, 0), -1);
         due("names(0, 0, 21)", x.names(0, 0, 21), -1);
         due("names(6, 0, 1)", x.names(6, 0, 1), -1);

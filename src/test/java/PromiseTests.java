@@ -366,8 +366,9 @@ public final class PromiseTests {
     private static void picks() {
         SeatsRound x = house(0, 1, 2, 3, 4, 5, 0, 1);
         int z = 77;
+        for (int k = 0; k < 8; k++) x.strength(k, 8 - k);
         for (int way = 0; way < 3; way++) table(x, "p " + way, 255, z);
-        for (int m = 0; m < 1000; m += 37) {
+        for (int m = 0; m < 1000; m += 3) {
             java.util.List<Integer> round = new java.util.ArrayList<>(), jump = new java.util.ArrayList<>();
             for (int i = 0; i < 1000; i++) {
                 int k = x.seat(0, (m + i) % 1000);
@@ -384,7 +385,7 @@ public final class PromiseTests {
                 due("JUMP", x.picked(2, m, i), jump.get(i));
                 if (i == 0) continue;
                 int a = x.picked(1, m, i - 1), b = x.picked(1, m, i);
-                int sa = ring(m * 7919 + a * 104729 + z), sb = ring(m * 7919 + b * 104729 + z);
+                int sa = ring(m * 7919 + a * 104729 + z) * (8 - a), sb = ring(m * 7919 + b * 104729 + z) * (8 - b);
                 due("SUMS", sa > sb || sa == sb && a < b ? 1 : 0, 1);
             }
         }
@@ -834,6 +835,11 @@ public final class PromiseTests {
         x.comes(1);
         due("order(0)", x.order(0), 0);
         due("ordered(0)", x.ordered(0), 1);
+        SeatsRound y = house(0, 1, 2, 3, 4, 5);
+        table(y, "c 1", 1, 0);
+        for (int k = 0; k < 5; k++) y.comes(5 - k);
+        due("five, and no names", y.order(0), 0);
+        for (int i = 0; i < 5; i++) due("of like orders the first", y.ordered(i), i);
     }
 
     private static void turnings() {

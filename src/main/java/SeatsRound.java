@@ -960,9 +960,13 @@ public final class SeatsRound {
             return receives(keeper, name, latest[name]);
         }
 
-        /** One law for all that comes to a shelf: a greater version alone, and only where there is room. */
+        /** By writing and mending alone: what is handed back or moved comes without a look at the room. */
         private boolean receives(int keeper, int name, int v) {
-            if (v <= version[keeper][name] || !hasRoom(keeper, name)) return false;
+            return hasRoom(keeper, name) && takesGreater(keeper, name, v);
+        }
+
+        private boolean takesGreater(int keeper, int name, int v) {
+            if (v <= version[keeper][name]) return false;
             version[keeper][name] = v;
             return true;
         }
@@ -988,7 +992,7 @@ public final class SeatsRound {
             for (int k = 0; k < keepers.count; k++) {
                 for (int name = 0; name < nameList.count; name++) {
                     if (kept[k][name] == 0 || keptFor[k][name] != woken) continue;
-                    receives(woken, name, kept[k][name]);
+                    takesGreater(woken, name, kept[k][name]);
                     kept[k][name] = 0;
                 }
             }
@@ -1018,7 +1022,7 @@ public final class SeatsRound {
             pieceTo[from][name] = to;
             pieces[from][name]++;
             if (pieces[from][name] < ALL_PIECES) return pieces[from][name];
-            receives(to, name, version[from][name]);
+            takesGreater(to, name, version[from][name]);
             version[from][name] = 0;
             pieces[from][name] = 0;
             return ALL_PIECES;

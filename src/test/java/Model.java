@@ -21,9 +21,9 @@ public final class Model {
         int counts() { return kind == 1 || kind == 6 ? 2 * strength : strength; }
         boolean up() { return !fallen && kind != 4; }
         void receive(int name, int v) {
-            if (canReceive(name, v)) shelf.put(name, v);
+            shelf.merge(name, v, Math::max);
         }
-        boolean canReceive(int name, int v) {
+        boolean wouldTake(int name, int v) {  // asked ahead of WRITTEN and MENDED; WOKEN and HALF do not ask
             if (kind == 6 && shelf.size() >= 8 && !shelf.containsKey(name)) return false;
             return v > shelf.getOrDefault(name, 0);
         }
@@ -349,8 +349,9 @@ public final class Model {
             Body to = bodies.get(k);
             if (to.fallen) continue;
             if (to.kind != 4) {
-                if (to.canReceive(name, v)) came++;
+                if (!to.wouldTake(name, v)) continue;
                 to.receive(name, v);
+                came++;
                 continue;
             }
             for (int h : b.picks(number(name, b.z))) {
@@ -412,7 +413,7 @@ public final class Model {
             if (most == 0) continue;
             for (int k : boards.get(table).of(name)) {
                 Body b = bodies.get(k);
-                if (!b.up() || !b.canReceive(name, most)) continue;
+                if (!b.up() || !b.wouldTake(name, most)) continue;
                 b.receive(name, most);
                 came++;
             }

@@ -187,6 +187,40 @@ public final class PromiseTests {
         due("handed back", x.onShelf(first, 0, 0), 2);
         due("kept no more", x.count(5), 0);
         due("for nobody", x.onShelf(other, 0, 2), -2);
+        wakesFull();
+    }
+
+    /** Keepers 0 and 1; ten names, of which keeper 1 has as many as told, as table 0 is of it alone; table 1 of both. */
+    private static SeatsRound filledUp(int many) {
+        SeatsRound x = house(0, 1);
+        for (int i = 0; i < 10; i++) name(x, "n" + i);
+        table(x, "c 1", 2, 0);
+        x.knows(0, 0);
+        for (int n = 0; n < many; n++) x.write(0, n);
+        table(x, "c 1", 3, 0);
+        return x;
+    }
+
+    private static void wakesFull() {
+        SeatsRound x = filledUp(8);
+        x.become(1, 4);
+        int z = 0, t = 1;
+        while (t < 9 && (x.keeperOf(t, 8, 0) != 1 || x.keeperOf(t, 9, 0) != 1 || x.keeperOf(t, 0, 0) != 1)) t = table(x, "c 1", 3, ++z);
+        due("a table by which keeper 1 has them", x.keeperOf(t, 8, 0) * x.keeperOf(t, 9, 0) * x.keeperOf(t, 0, 0), 1);
+        x.knows(0, t);
+        due("kept for it", x.write(0, 8) + x.write(0, 9) + x.write(0, 0) + x.write(0, 9), 4);
+        due("three are kept", x.ofKeeper(0, 6), 3);
+        due("it wakes as FULL", x.become(1, 6), 4);
+        due("a ninth NAME came", x.onShelf(1, 8, 0), 1);
+        due("a tenth NAME came", x.onShelf(1, 9, 0), 2);
+        due("the greater VERSION came", x.onShelf(1, 0, 0), 2);
+        due("NAMES on its SHELF", x.ofKeeper(1, 5), 10);
+        due("none is kept", x.count(5), 0);
+        due("written to what it has", x.write(0, 8), 1);
+        x.half(9, 1, 0);
+        x.half(9, 1, 0);
+        due("one is moved away", x.half(9, 1, 0), 3);
+        due("with 9 it is FULL still", x.write(0, 9), 0);
     }
 
     private static void strengths() {
@@ -669,6 +703,24 @@ public final class PromiseTests {
         for (int i = 1; i < 4; i++) due("a lesser one", x.half(0, 0, 1), i);
         due("stays the greater one", x.onShelf(1, 0, 0), 3);
         due("is gone from the first one", x.onShelf(0, 0, 0), 0);
+        halfToFull();
+    }
+
+    private static void halfToFull() {
+        SeatsRound x = filledUp(8);
+        table(x, "c 1", 1, 0);
+        x.become(1, 6);
+        x.knows(0, 2);
+        for (int n = 7; n < 10; n++) x.write(0, n);
+        for (int i = 1; i < 4; i++) due("a ninth NAME to one that is FULL", x.half(8, 0, 1), i);
+        due("it came", x.onShelf(1, 8, 0), 1);
+        due("the first one has it no more", x.onShelf(0, 8, 0), 0);
+        for (int i = 1; i < 4; i++) due("a NAME that it has", x.half(7, 0, 1), i);
+        due("the greater VERSION came", x.onShelf(1, 7, 0), 2);
+        due("NAMES on its SHELF", x.ofKeeper(1, 5), 9);
+        table(x, "c 1", 2, 0);
+        due("mending asks for room", x.mend(3), 0);
+        due("so none of the tenth came", x.onShelf(1, 9, 0), 0);
     }
 
     private static void mends() {

@@ -273,7 +273,7 @@ public final class SeatsRound {
         if (!keepers.has(keeper) || !keepers.has(other) || keeper == other) return BAD;
         if (what < 0 || what > 1) return BAD;
         parcels.compare(keeper, other);
-        return what == 0 ? parcels.wordsBelow(1) : parcels.unlikeLeaves();
+        return what == 0 ? parcels.wordsAsked() : parcels.unlikeLeaves();
     }
 
     public int noon(int table, int asks, int most) {
@@ -1065,10 +1065,16 @@ public final class SeatsRound {
             }
         }
 
-        /** Words for a node and, if it is unlike, for all that is asked below it; a leaf ends it. */
-        int wordsBelow(int node) {
-            if (node < 1 || node >= LEAVES || oneTree[node] == otherTree[node]) return 1;
-            return 1 + wordsBelow(2 * node) + wordsBelow(2 * node + 1);
+        /** A node is asked only if the one above it was asked and is unlike, so one that is alike by chance hides what is below. */
+        int wordsAsked() {
+            int words = 1;
+            int asked = 1 << 1;
+            for (int node = 1; node < LEAVES; node++) {
+                if ((asked >> node & 1) == 0 || oneTree[node] == otherTree[node]) continue;
+                words += 2;
+                asked |= 3 << 2 * node;
+            }
+            return words;
         }
 
         int unlikeLeaves() {

@@ -1,43 +1,5 @@
 /** Each promise by hand: ordinary inputs, the edges that the document names, wrong inputs. */
-public final class PromiseTests {
-    private static int wrong = 0;
-    private static int promise = 0;
-
-    private static void due(String call, long got, long want) {
-        if (got == want) return;
-        wrong++;
-        System.out.println("promise " + promise + ": " + call + " answered " + got + ", due is " + want);
-    }
-
-    private static void feed(SeatsRound x, String text) {
-        for (int i = 0; i < text.length(); i += 4) {
-            int n = Math.min(4, text.length() - i), v = 0;
-            for (int b = 0; b < n; b++) v |= (text.charAt(i + b) & 255) << 8 * b;
-            x.feed(n, v);
-        }
-    }
-
-    private static int name(SeatsRound x, String text) {
-        feed(x, text);
-        return x.name();
-    }
-
-    private static int table(SeatsRound x, String law, int keepers, int z) {
-        feed(x, law);
-        return x.table(keepers, z);
-    }
-
-    /** Keepers of strength 1, one for each street told. */
-    private static SeatsRound house(int... streets) {
-        SeatsRound x = new SeatsRound();
-        for (int s : streets) x.keeper(s, 1);
-        return x;
-    }
-
-    private static int ring(int v) {
-        return ((v * 1103515245 + 12345) >>> 8) % 1000;
-    }
-
+public final class PromiseTests extends Desk {
     public static void main(String[] args) {
         promise = 1; newObject();
         promise = 2; feeds();
@@ -81,8 +43,7 @@ public final class PromiseTests {
         promise = 40; takens();
         promise = 41; namesFromRows();
         promise = 42; counts();
-        System.out.println(wrong == 0 ? "all promises hold" : wrong + " answers are not as due");
-        if (wrong != 0) System.exit(1);
+        end("all promises hold");
     }
 
     private static void newObject() {
@@ -377,50 +338,37 @@ public final class PromiseTests {
     }
 
     private static void seats() {
-        SeatsRound x = new SeatsRound();
-        for (int k = 0; k < 12; k++) x.keeper(0, 8);
-        for (int k = 0; k < 12; k++) x.become(k, 1);
-        table(x, "c 1", 4095, 1);
-        due("SEATS of all", x.ofTable(0, 1), 768);
-        int[] at = new int[1000];
-        java.util.Arrays.fill(at, -2);
-        for (int k = 0; k < 12; k++) {
-            for (int j = 0; j < 64; j++) {
-                int p = ring(k * 7919 + j * 104729 + 1);
-                while (at[p] != -2) p = (p + 1) % 1000;
-                at[p] = k;
+        int[] strengths = new int[12];
+        java.util.Arrays.fill(strengths, 16);
+        int[] at = seated(1, strengths);
+        SeatsRound x = null;
+        for (int p = 0; p < 1000; p++) {
+            if (p % 400 == 0) {
+                x = new SeatsRound();
+                for (int k = 0; k < 12; k++) x.keeper(0, 8);
+                for (int k = 0; k < 12; k++) x.become(k, 1);
+                table(x, "c 1", 4095, 1);
+                due("SEATS of all", x.ofTable(0, 1), 768);
             }
+            due("seat(0, " + p + ")", x.seat(0, p), at[p]);
         }
-        for (int p = 0; p < 1000; p++) due("seat(0, " + p + ")", x.seat(0, p), at[p]);
         due("seat(0, 1000)", x.seat(0, 1000), -1);
         due("seat(0, -1)", x.seat(0, -1), -1);
         due("seat(1, 0)", x.seat(1, 0), -1);
     }
 
     private static void picks() {
-        SeatsRound x = house(0, 1, 2, 3, 4, 5, 0, 1);
-        int z = 77;
-        for (int k = 0; k < 8; k++) x.strength(k, 8 - k);
-        for (int way = 0; way < 3; way++) table(x, "p " + way, 255, z);
+        int[] strengths = {8, 7, 6, 5, 4, 3, 2, 1};
+        SeatsRound x = null;
         for (int m = 0; m < 1000; m += 3) {
-            java.util.List<Integer> round = new java.util.ArrayList<>(), jump = new java.util.ArrayList<>();
-            for (int i = 0; i < 1000; i++) {
-                int k = x.seat(0, (m + i) % 1000);
-                if (k >= 0 && !round.contains(k)) round.add(k);
+            if (m % 45 == 0) {
+                x = house(0, 1, 2, 3, 4, 5, 0, 1);
+                for (int k = 0; k < 8; k++) x.strength(k, strengths[k]);
+                for (int way = 0; way < 3; way++) table(x, "p " + way, 255, 77);
             }
-            for (int j = 0; j < 8; j++) {
-                int p = (m + 333 * j) % 1000;
-                for (int i = 0; i < 1000 && (x.seat(2, p) < 0 || jump.contains(x.seat(2, p))); i++) p = (p + 1) % 1000;
-                jump.add(x.seat(2, p));
-            }
-            due("all are seated", round.size(), 8);
-            for (int i = 0; i < round.size(); i++) {
-                due("ROUND", x.picked(0, m, i), round.get(i));
-                due("JUMP", x.picked(2, m, i), jump.get(i));
-                if (i == 0) continue;
-                int a = x.picked(1, m, i - 1), b = x.picked(1, m, i);
-                int sa = ring(m * 7919 + a * 104729 + z) * (8 - a), sb = ring(m * 7919 + b * 104729 + z) * (8 - b);
-                due("SUMS", sa > sb || sa == sb && a < b ? 1 : 0, 1);
+            for (int way = 0; way < 3; way++) {
+                java.util.List<Integer> want = picks(way, m, 77, strengths);
+                for (int i = 0; i < 8; i++) due("picked(" + way + ", " + m + ", " + i + ")", x.picked(way, m, i), want.get(i));
             }
         }
         due("picked(0, 0, 8)", x.picked(0, 0, 8), -1);
@@ -476,7 +424,7 @@ public final class PromiseTests {
             for (int k = 0; k < 3; k++) {
                 int share = 0, all = 0;
                 for (int n = 0; n < 9; n++) if (x.keeperOf(t, n, 0) == k) share++;
-                for (int m = 0; m < 1000; m++) if (x.picked(t, m, 0) == k) all++;
+                for (int m = 0; m < 1000; m++) if (picks(way, m, 5, 1, 1, 1).get(0) == k) all++;
                 due("SHARE", x.share(t, k, 0), share);
                 due("ODDS", x.share(t, k, 1), all);
                 names += share;
@@ -1115,11 +1063,6 @@ public final class PromiseTests {
         due("taken(2, 7)", x.taken(2, 7), -1);
         due("taken(0, -1)", x.taken(0, -1), -1);
         due("taken(6, 0)", x.taken(6, 0), -1);
-    }
-
-    private static void fill(SeatsRound x, int shelf, int... bytes) {
-        x.row(shelf, 0, bytes.length);
-        for (int i = 0; i < bytes.length; i++) x.put(shelf, i, bytes[i]);
     }
 
     private static void namesFromRows() {

@@ -11,6 +11,13 @@ final class ActSentences extends Desk {
 
     private static void acts() {
         SentenceTests.sentence(33, "ACTS of KEEPERS with x (an int that wraps): 0 finds, 1 keeps, 2 moves, 3 tells; n its number, s its STRENGTH (not doubled).", ActSentences::actsThatWrap);
+        SentenceTests.sentence(33, "FINDS (an interface of KEEPER): 1 finds: x + n. KEEPER: 10 keeps: finds(x) * 2. 11 moves: x ^ n. TELLS (of KEEPER): 2 tells: keeps(x) - moves(1).", () -> bodiesOf(0));
+        SentenceTests.sentence(33, "STRONG: 20 finds: super.finds(x) + s.", () -> bodiesOf(1));
+        SentenceTests.sentence(33, "COMING: 30 moves: super.moves(x) * 3.", () -> bodiesOf(2));
+        SentenceTests.sentence(33, "GOING: 40 keeps: -super.keeps(x).", () -> bodiesOf(3));
+        SentenceTests.sentence(33, "ASLEEP: 50 tells: super.tells(x) ^ 9.", () -> bodiesOf(4));
+        SentenceTests.sentence(33, "MISTAKEN: 60 finds: super.finds(x + 1). 61 moves: super.moves(x) - finds(2).", () -> bodiesOf(5));
+        SentenceTests.sentence(33, "FULL: 70 keeps: super.keeps(x) + super.moves(x). 71 finds: super.finds(x) * 2.", () -> bodiesOf(6));
         SentenceTests.sentence(33, "finds(..) and so on: the body of its own KIND, or of the next KIND above that has one; super: from the KIND above the body's on.", ActSentences::bodiesOfKinds);
         SentenceTests.sentence(33, "An ACT (0 .. 3) of a KEEPER with x. 0, and no TRACE then: no such KEEPER, ACT.", ActSentences::noSuchAct);
         SentenceTests.sentence(34, "numbers of the bodies that ran in the latest act(), as they began; the first 24 are kept.", ActSentences::latestTrace);
@@ -207,6 +214,22 @@ final class ActSentences extends Desk {
                 due("bodies", x.count(7), RAN.size());
                 for (int i = 0; i < RAN.size(); i++) due("trace(" + i + ")", x.trace(i), RAN.get(i));
                 due("no more", x.trace(RAN.size()), BAD);
+            }
+        }
+    }
+
+    private static void bodiesOf(int kind) {
+        for (int n : new int[] {0, 11}) {
+            for (int s : new int[] {1, 8}) {
+                SeatsRound x = new SeatsRound();
+                for (int k = 0; k < 12; k++) x.keeper(0, s);
+                x.become(n, kind);
+                for (int act = 0; act < 4; act++) {
+                    for (int v : new int[] {MOST, MOST - n, LEAST, 1 << 30, -1}) {
+                        due("act(" + n + ", " + act + ", " + v + ")", x.act(n, act, v), acted(body(kind, n, s), act, v));
+                        for (int i = 0; i <= RAN.size(); i++) due("trace(" + i + ")", x.trace(i), i < RAN.size() ? RAN.get(i) : BAD);
+                    }
+                }
             }
         }
     }

@@ -4,6 +4,8 @@ final class NameSentences extends Desk {
 
     static void all() {
         SentenceTests.sentence(1, "No names, no keepers, no tables.", NameSentences::aNewObject);
+        SentenceTests.sentence(1, "BAD (-1): no such number, or it is not as said; NOT (-2): as told; FULL (-3); STATE (-5): as told; -11 to -14. VOID is -2000000000.", NameSentences::constants);
+        SentenceTests.sentence(1, "All memory is the class's own.", NameSentences::ownMemory);
         SentenceTests.sentence(2, "n (1 .. 4) bytes come to THE TAPE, the lowest of v first: how many it has.", NameSentences::fedBytes);
         SentenceTests.sentence(2, "THE TAPE (at most 80 bytes)", NameSentences::tapeOf80);
         SentenceTests.sentence(2, "BAD, FULL.", NameSentences::fedTooMuch);
@@ -37,6 +39,49 @@ final class NameSentences extends Desk {
         due("harmed()", x.harmed(), BAD);
         due("trace(0)", x.trace(0), BAD);
         for (int shelf = 0; shelf < 6; shelf++) due("taken(" + shelf + ", 0)", x.taken(shelf, 0), NOTHING);
+    }
+
+    private static void constants() {
+        due("BAD", SeatsRound.BAD, -1);
+        due("NOT", SeatsRound.NOT, -2);
+        due("FULL", SeatsRound.FULL, -3);
+        due("STATE", SeatsRound.STATE, -5);
+        due("VOID", SeatsRound.VOID, -2000000000);
+    }
+
+    /** Nothing that is done to one object is seen by another one. */
+    private static void ownMemory() {
+        SeatsRound one = inOrder("c 1", 0, 1), other = new SeatsRound();
+        one.write(0, 0);
+        one.half(0, 0, 1);
+        one.comes(0);
+        one.turning(1);
+        one.act(0, 3, 1);
+        fill(one, 0, 1, 'x');
+        one.feed(2, 0);
+        for (int what = 0; what < 8; what++) due("count(" + what + ") of the other one", other.count(what), 0);
+        due("its SHELF", other.taken(0, 0), NOTHING);
+        due("its TRACE", other.trace(0), BAD);
+        due("its TURNINGS", other.turning(1), 1);
+        due("its first KEEPER", other.keeper(5, 8), 0);
+        due("its first NAME", name(other, "b"), 0);
+        due("its first TABLE", table(other, "c 4;s 4;p 2", 1, 5), 0);
+        due("its KEEPER for ORDER", other.comes(0), 1);
+        due("its VERSION", other.onShelf(0, 0, 0), 0);
+        other.knows(0, 0);
+        for (int i = 0; i < 3; i++) other.write(0, 0);
+        other.fall(0, 1);
+        other.row(0, 3, 60);
+        due("the first one's NAME", one.number(0, 7), number("a", 7));
+        due("the first one's STRENGTH", one.ofKeeper(0, 2), 1);
+        due("the first one's COPIES", one.ofTable(0, 2), 1);
+        due("the first one's VERSION", one.onShelf(0, 0, 0), 1);
+        due("the first one's PIECES", one.half(0, 0, 1), 2);
+        due("the first one's ROW", one.element(0, 1), 'x');
+        due("the first one's TRACE", one.count(7), 4);
+        due("the first one's TAPE", one.count(3), 2);
+        due("the first one's TURNINGS", one.turning(2), 2);
+        due("the first one's KEEPERS for ORDER", one.comes(1), 2);
     }
 
     private static void fedBytes() {

@@ -93,6 +93,9 @@ final class OrderSentences extends Desk {
         int[] strengths = {1, 2, 3, 1, 2, 3, 1}, kinds = {0, 1, 0, 6, 0, 2, 4};
         SeatsRound x = of(strengths, kinds);
         table(x, law, set, z);
+        // Another table and a fault come behind it: its own law is the one that counts.
+        table(x, "c 4;s 4;p 2", 127, 99);
+        table(x, "s 4;c", 1, 0);
         dueOrder(x, strengths, kinds, law, z, set, told);
     }
 
@@ -231,8 +234,10 @@ final class OrderSentences extends Desk {
             x.turning(turnings[i]);
             if (greatest(turnings[i], 40, 1, 2, 0, 4) < greatest(turnings[best], 40, 1, 2, 0, 4)) best = i;
         }
-        // Strengths of now do not matter: the table has its own.
+        // Strengths of now, other tables and their laws do not matter: the table has its own.
         x.strength(0, 8);
+        table(x, "p 1", 4, 7);
+        table(x, "p 2;", 15, 7);
         due("harm of " + turnings.length, x.harm(0), best);
         due("harmed()", x.harmed(), greatest(turnings[best], 40, 1, 2, 0, 4));
         due("the table's own SEATS stay", x.seat(0, strewn(123)), 0);

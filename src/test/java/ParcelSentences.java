@@ -36,6 +36,7 @@ final class ParcelSentences extends Desk {
         SentenceTests.sentence(22, "behind the third one the VERSION that the first one has then comes (if it is greater), and the first one has it no more", ParcelSentences::behindTheThird);
         SentenceTests.sentence(22, "if either is FALLEN or ASLEEP: it is cut: PIECES are 0 again.", ParcelSentences::cut);
         SentenceTests.sentence(22, "(PIECES are of the NAME and the first one; to another one than ahead: anew from 1)", ParcelSentences::anewFrom1);
+        SentenceTests.sentence(22, "PIECES (3: it came); 0: it is cut.", ParcelSentences::piecesAnswered);
         SentenceTests.sentence(22, "BAD; NOT: the first one has it not.", ParcelSentences::halfRefused);
         SentenceTests.sentence(23, "of each NAME the greatest VERSION on any SHELF of KEEPERS not FALLEN", ParcelSentences::greatestOnAnyShelf);
         SentenceTests.sentence(23, "comes to all KEEPERS OF it by that TABLE that are not FALLEN and not ASLEEP: how many copies came.", ParcelSentences::mendedCopies);
@@ -44,6 +45,7 @@ final class ParcelSentences extends Desk {
 
     private static void comparedAndJudged() {
         SentenceTests.sentence(24, "leaves 0 .. 7: NAMES by number % 8, each leaf's sum: over its NAMES number + 1 times VERSION", ParcelSentences::leaves);
+        SentenceTests.sentence(24, "nodes above are sums of two (1 root, 2, 4, 8 leaves).", ParcelSentences::nodesAbove);
         SentenceTests.sentence(24, "WORDS: 1 for the root; below each node that is unlike both below are asked (2).", ParcelSentences::treeWords);
         SentenceTests.sentence(24, "UNLIKE: how many leaves are.", ParcelSentences::unlike);
         SentenceTests.sentence(24, "TREES: WORDS (what 0), UNLIKE (1). BAD (also one and the same).", ParcelSentences::treesRefused);
@@ -192,6 +194,29 @@ final class ParcelSentences extends Desk {
         due("3 is not in the TABLE", x.write(3, 0), 1);
         due("nobody keeps it", x.count(5), 0);
         keptByOneThatIsFull();
+        keptByTheLastOfTwelve();
+    }
+
+    /** All twelve are in the table: the last one picked keeps it, and if that one may not, nobody does. */
+    private static void keptByTheLastOfTwelve() {
+        SeatsRound x = house(0, 0, 0, 0, 0, 0, 0, 0, 0, 0, 0, 0);
+        name(x, "a");
+        table(x, "c 1", 4095, 0);
+        int m = x.number(0, 0), first = x.picked(0, m, 0), second = x.picked(0, m, 1), last = x.picked(0, m, 11);
+        x.knows(last, 0);
+        for (int k = 0; k < 12; k++) if (k != last) x.become(k, 4);
+        due("by the last one", x.write(last, 0), 1);
+        dueKept(x, last, 1, first);
+        x.become(second, 0);
+        x.knows(second, 0);
+        x.fall(last, 1);
+        due("by the second one", x.write(second, 0), 1);
+        dueKept(x, second, 2, first);
+        table(x, "c 4", 4095, 0);
+        x.become(second, 0);
+        x.knows(second, 1);
+        due("to the second one, and nobody is left for the others", x.write(second, 0), 1);
+        due("what is KEPT", x.count(5), 1);
     }
 
     /** What is KEPT is on no SHELF, so one that is FULL keeps it all the same. */
@@ -595,6 +620,18 @@ final class ParcelSentences extends Desk {
         due("to number 0", y.half(0, 1, 0), 2);
     }
 
+    private static void piecesAnswered() {
+        SeatsRound x = inOrder("c 1", 0, 1, 2);
+        x.write(0, 0);
+        int[][] calls = {{1, 0, 1}, {1, 0, 2}, {1, 4, 0}, {1, 0, 1}, {1, 0, 2}, {1, 0, 3}};
+        for (int[] c : calls) {
+            x.become(1, c[1]);
+            due("half(0, 0, 1), the other one of KIND " + c[1], x.half(0, 0, c[0]), c[2]);
+            due("PIECES", x.onShelf(0, 0, 3), c[2] % 3);
+        }
+        due("it came", x.onShelf(1, 0, 0), 1);
+    }
+
     private static void halfRefused() {
         SeatsRound x = inOrder("c 1", 0, 1, 2);
         x.write(0, 0);
@@ -709,6 +746,21 @@ final class ParcelSentences extends Desk {
         due("NAME 31 is in leaf 7", x.trees(0, 1, 1), 1);
         x.write(0, 32);
         due("NAME 32 is in leaf 0", x.trees(0, 1, 1), 2);
+    }
+
+    private static void nodesAbove() {
+        // Two leaves are unlike, the least node above both is alike by chance; then one more leaf, and the words behind it.
+        int[][] chances = {{2, 4, 3, 3, 0, 7}, {1, 3, 2, 2, 7, 7}, {3, 8, 7, 4, 0, 13}};
+        for (int[] c : chances) {
+            SeatsRound x = apart(8);
+            for (int i = 0; i < c[1]; i++) x.write(0, c[0]);
+            for (int i = 0; i < c[3]; i++) x.write(1, c[2]);
+            due("leaves " + c[0] + " and " + c[2], x.trees(0, 1, 1), 2);
+            due("a root that is alike", x.trees(0, 1, 0), 1);
+            x.write(0, c[4]);
+            due("and leaf " + c[4], x.trees(0, 1, 1), 3);
+            due("a root that is unlike", x.trees(0, 1, 0), c[5]);
+        }
     }
 
     private static void treeWords() {

@@ -17,6 +17,7 @@ public final class RefusalTests extends Desk {
         parcels();
         ordersAndHarm();
         actsAndRows();
+        fullHouse();
         end(refusals + " refusals change nothing");
     }
 
@@ -347,5 +348,60 @@ public final class RefusalTests extends Desk {
         refuses("names() of a ROW of shorts", OTHER, x -> x.names(3, 0, 1));
         promise = 42;
         outside("count(what)", 0, 7, BAD, what -> x -> x.count(what));
+    }
+
+    /** "BAD (-1): no such number": in a house that is full the greatest numbers are there, and one more is not. */
+    private static void fullHouse() {
+        SeatsRound x = new SeatsRound();
+        for (int k = 0; k < 12; k++) x.keeper(k % 6, 1 + k % 8);
+        names(x, 40);
+        for (int t = 0; t < 10; t++) table(x, "c 1", 2048, t);
+        for (int k = 0; k < 12; k++) x.knows(k, 9);
+        int seat = least(p -> seated(9, 0, 0, 0, 0, 0, 0, 0, 0, 0, 0, 0, 4)[p] == 11);
+        pair(4, "number", number("n39", 3), x.number(39, 3), BAD, x.number(40, 3));
+        pair(6, "become", 0, x.become(11, 0), BAD, x.become(12, 0));
+        pair(7, "strength", 4, x.strength(11, 4), BAD, x.strength(12, 4));
+        pair(8, "ofKeeper", 5, x.ofKeeper(11, 1), VOID, x.ofKeeper(12, 1));
+        pair(9, "table", FULL, x.table(2048, 0), BAD, x.table(4096, 0));
+        pair(10, "ofTable", 16, x.ofTable(9, 1), BAD, x.ofTable(10, 1));
+        pair(11, "seat", 11, x.seat(9, seat), BAD, x.seat(10, seat));
+        pair(12, "picked", 11, x.picked(9, 999, 0), BAD, x.picked(10, 999, 0));
+        pair(13, "keeperOf a table", 11, x.keeperOf(9, 39, 0), BAD, x.keeperOf(10, 39, 0));
+        pair(13, "keeperOf a name", 1, x.keeperOf(9, 39, -1), BAD, x.keeperOf(9, 40, -1));
+        pair(14, "tooFew", 0, x.tooFew(9), BAD, x.tooFew(10));
+        pair(15, "share by a table", 40, x.share(9, 11, 0), BAD, x.share(10, 11, 0));
+        pair(15, "share of a keeper", 1000, x.share(9, 11, 1), BAD, x.share(9, 12, 1));
+        pair(16, "moves from", 0, x.moves(9, 0, 0), BAD, x.moves(10, 0, 0));
+        pair(16, "moves to", 0, x.moves(0, 9, 0), BAD, x.moves(0, 10, 0));
+        pair(17, "knows a table", 9, x.knows(0, 9), VOID, x.knows(0, 10));
+        pair(17, "a keeper knows", 9, x.knows(11, 9), VOID, x.knows(12, 9));
+        pair(18, "write by a keeper", 1, x.write(11, 39), BAD, x.write(12, 39));
+        pair(18, "write a name", 1, x.write(0, 39), BAD, x.write(0, 40));
+        pair(19, "read by a keeper", 2, x.read(11, 39), BAD, x.read(12, 39));
+        pair(19, "read a name", 2, x.read(0, 39), BAD, x.read(0, 40));
+        pair(20, "onShelf of a keeper", 2, x.onShelf(11, 39, 0), BAD, x.onShelf(12, 39, 0));
+        pair(20, "onShelf of a name", 2, x.onShelf(11, 39, 0), BAD, x.onShelf(11, 40, 0));
+        pair(22, "half of a name", 1, x.half(39, 11, 0), BAD, x.half(40, 11, 0));
+        pair(22, "half from", 2, x.half(39, 11, 0), BAD, x.half(39, 12, 0));
+        pair(22, "half to", NOT, x.half(39, 0, 11), BAD, x.half(39, 11, 12));
+        pair(24, "trees", 7, x.trees(11, 0, 0), BAD, x.trees(12, 0, 0));
+        pair(24, "trees with", 1, x.trees(0, 11, 1), BAD, x.trees(0, 12, 1));
+        pair(21, "fall", 0, x.fall(11, 1), BAD, x.fall(12, 1));
+        pair(21, "fall", 1, x.fall(11, 0), BAD, x.fall(12, 0));
+        pair(23, "mend", 0, x.mend(9), BAD, x.mend(10));
+        pair(25, "noon", 1, x.noon(9, 1, 1), BAD, x.noon(10, 1, 1));
+        pair(26, "lies", 4, x.lies(11, 0, 1, 0), BAD, x.lies(12, 0, 1, 0));
+        pair(27, "comes", 1, x.comes(11), BAD, x.comes(12));
+        pair(28, "order", NOT, x.order(9), BAD, x.order(10));
+        x.turning(1);
+        pair(31, "harm", 0, x.harm(9), BAD, x.harm(10));
+        pair(33, "act", 31, x.act(11, 0, 20), 0, x.act(12, 0, 20));
+        pair(35, "keep", 1, x.keep(5, 11), BAD, x.keep(5, 12));
+    }
+
+    private static void pair(int itsPromise, String call, long wantGreatest, long gotGreatest, long wantMore, long gotMore) {
+        promise = itsPromise;
+        due(call + " with the greatest number", gotGreatest, wantGreatest);
+        due(call + " with one more", gotMore, wantMore);
     }
 }

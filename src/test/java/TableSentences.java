@@ -1,5 +1,3 @@
-import java.util.List;
-
 /** Sentences on tables, seats, laws and their fault, who is picked and chosen, shares and moves: promises 9 to 16. */
 final class TableSentences extends Desk {
     static void all() {
@@ -15,6 +13,7 @@ final class TableSentences extends Desk {
         SentenceTests.sentence(9, "A TABLE of KEEPERS (bits): its number; -100 less the FAULT of THE TAPE (that is empty then in both). BAD (bits; THE TAPE stays), FULL (likewise).", TableSentences::tableRefused);
         SentenceTests.sentence(10, "Of a TABLE: 0 KEEPERS (bits), 1 SEATS, 2 COPIES, 3 STREETS, 4 how they are PICKED, 5 EVEN. BAD.", TableSentences::ofATable);
         SentenceTests.sentence(10, "each 4 for each STRENGTH that counts", TableSentences::fourForEach);
+        SentenceTests.sentence(11, "KEEPER by KEEPER by numbers, each 4 for each STRENGTH that counts, seat j (from 0) at the place ((k * 7919 + j * 104729 + z) * 1103515245 + 12345 >>> 8) % 1000 (ints that wrap)", TableSentences::seatsThatWrap);
         SentenceTests.sentence(11, "or, if one is there, at the next free one, round (behind 999 comes 0).", TableSentences::nextFreeSeat);
         SentenceTests.sentence(11, "Whose SEAT is at a place (0 .. 999) of a TABLE; NOT: none. BAD.", TableSentences::seatsAtTheEnds);
     }
@@ -38,7 +37,9 @@ final class TableSentences extends Desk {
 
     private static void picksAndChoices() {
         SentenceTests.sentence(12, "0 ROUND: KEEPERS in the order in which their SEATS come, from place m on, round.", TableSentences::pickedRound);
+        SentenceTests.sentence(12, "KEEPERS by ((m * 7919 + k * 104729 + z) * 1103515245 + 12345 >>> 8) % 1000 times STRENGTH that counts", TableSentences::sumsThatWrap);
         SentenceTests.sentence(12, "the greatest first, of like ones the least number.", TableSentences::pickedBySums);
+        SentenceTests.sentence(12, "then from (m + 333) % 1000, from (m + 666) % 1000 ..: of each of these the first KEEPER that is not there yet, one by one, till all are there", TableSentences::jumpsOverTheEnd);
         SentenceTests.sentence(12, "(behind (m + 999) % 1000 comes m again, so it goes on by 333 each time, % 1000).", TableSentences::pickedByJumps);
         SentenceTests.sentence(12, "The i-th KEEPER PICKED for a NUMBER by a TABLE. BAD (also none such).", TableSentences::pickedRefused);
         SentenceTests.sentence(13, "first such as are in STREETS that are not there yet, till there are as many unlike STREETS as STREETS says (or COPIES is reached, or none is left)", TableSentences::streetsFirst);
@@ -142,29 +143,44 @@ final class TableSentences extends Desk {
         due("one of STRENGTH 16 that counts", x.ofTable(2, 1), 64);
     }
 
-    private static void nextFreeSeat() {
-        // A turning by which the last of five keepers is driven from 999 to 0.
-        int z = least(TableSentences::isDrivenRound);
-        int[] at = seated(z, 8, 8, 8, 8, 8);
-        for (int part = 0; part < 4; part++) {
-            SeatsRound x = new SeatsRound();
-            for (int k = 0; k < 5; k++) x.keeper(0, 8);
-            table(x, "c 1", 31, z);
-            for (int p = 250 * part; p < 250 * part + 250; p++) due("seat(0, " + p + ") by " + z, x.seat(0, p), at[p]);
+    private static void seatsThatWrap() {
+        for (int z : new int[] {LEAST, MOST, MOST - 104729, -1, 0}) {
+            SeatsRound x = house(0, 0);
+            x.strength(1, 2);
+            table(x, "c 1", 3, z);
+            int[] at = seated(z, 1, 2);
+            int seats = 0;
+            for (int p = 0; p < 1000; p++) {
+                if (at[p] == NOT && p % 9 != 0) continue;
+                due("seat(0, " + p + ") by " + z, x.seat(0, p), at[p]);
+                if (at[p] != NOT) seats++;
+            }
+            due("SEATS by " + z, x.ofTable(0, 1), seats);
         }
     }
 
-    /** Whether 999 is wanted twice, so that a seat comes to 0 that is not strewn there. */
-    private static boolean isDrivenRound(int z) {
-        int wanted = 0, first = 0;
-        for (int k = 0; k < 5; k++) {
-            for (int j = 0; j < 32; j++) {
-                int p = strewn(k * 7919L + j * 104729L + z);
-                if (p == 999) wanted++;
-                if (p == 0) first++;
+    private static void nextFreeSeat() {
+        // Turnings by which a seat is driven from a place that two want to the one behind it, which none wants.
+        for (int place : new int[] {999, 998, 0, 500}) {
+            int z = least(v -> wanted(v, place) == 2 && wanted(v, (place + 1) % 1000) == 0 && wanted(v, (place + 999) % 1000) == 0);
+            int[] at = seated(z, 8, 8, 8, 8, 8);
+            due("the place behind is not free", at[(place + 1) % 1000] == NOT ? 0 : 1, 1);
+            for (int part = 0; part < 4; part++) {
+                SeatsRound x = new SeatsRound();
+                for (int k = 0; k < 5; k++) x.keeper(0, 8);
+                table(x, "c 1", 31, z);
+                for (int p = 250 * part; p < 250 * part + 250; p++) due("seat(0, " + p + ") by " + z, x.seat(0, p), at[p]);
             }
         }
-        return wanted > 1 && first == 0;
+    }
+
+    /** How often five keepers of strength 8 want a place. */
+    private static int wanted(int z, int place) {
+        int wanted = 0;
+        for (int k = 0; k < 5; k++) {
+            for (int j = 0; j < 32; j++) if (strewn(k * 7919L + j * 104729L + z) == place) wanted++;
+        }
+        return wanted;
     }
 
     private static void seatsAtTheEnds() {
@@ -261,6 +277,16 @@ final class TableSentences extends Desk {
         dueLaw("s 4", 240);
         dueLaw("p 2", 212);
         dueLaw("c 4", 410);
+        // Nothing stays of the table ahead, nor of a fault.
+        SeatsRound x = house(0, 0, 1);
+        due("all three", lawOf(x, "c 4;s 3;p 2"), 432);
+        due("without s and p", lawOf(x, "c 3"), 310);
+        lawOf(x, "c 4;s 3;p 2");
+        due("without c and p", lawOf(x, "s 2"), 220);
+        lawOf(x, "c 4;s 3;p 2");
+        due("without c and s", lawOf(x, "p 1"), 211);
+        lawOf(x, "c 4;s 3;p 2;");
+        due("behind a fault", lawOf(x, "p 1"), 211);
     }
 
     private static void sumsAndProducts() {
@@ -342,6 +368,8 @@ final class TableSentences extends Desk {
         dueLaw("c ((((3))))", 310);
         dueLaw("c ((((3))))*((((1))))+((((0))))", 310);
         dueLaw("c (((1+(2))))", 310);
+        dueLaw("s ((((3))))", 230);
+        dueFault("s (((((3)))))", 6);
         dueLaw("c ((((1)+(1))+(1)))", 310);
         dueFault("c (((((3)))))", 6);
         dueFault("c ((((1+(2)))))", 8);
@@ -404,21 +432,51 @@ final class TableSentences extends Desk {
     }
 
     private static void pickedRound() {
-        int z = 3;
-        int[] at = seated(z, 2, 3, 1);
+        int[] at = seated(3, 2, 3, 1);
         SeatsRound x = new SeatsRound();
         x.keeper(0, 2);
         x.keeper(0, 3);
         x.keeper(0, 1);
-        table(x, "p 0", 7, z);
-        int calls = 0;
-        for (int p = 0; p < 1000 && calls < 400; p++) {
-            // At a seat, one ahead of it, one behind it; and both ends of the ring.
+        table(x, "p 0", 7, 3);
+        // At each seat, one ahead of it, one behind it; and at both ends of the ring.
+        for (int p = 0; p < 1000; p++) {
             if (at[p] == NOT && p != 0 && p != 999) continue;
-            for (int m : new int[] {(p + 999) % 1000, p, (p + 1) % 1000}) {
-                List<Integer> picks = round(at, m);
-                for (int i = 0; i < 3; i++) due("picked(0, " + m + ", " + i + ")", x.picked(0, m, i), picks.get(i));
-                calls += 3;
+            dueRound(x, at, (p + 999) % 1000);
+            dueRound(x, at, p);
+            dueRound(x, at, (p + 1) % 1000);
+        }
+        for (int place : new int[] {997, 998, 999, 0}) roundFrom(place);
+    }
+
+    private static void dueRound(SeatsRound x, int[] at, int m) {
+        for (int i = 0; i < 3; i++) due("picked(0, " + m + ", " + i + ")", x.picked(0, m, i), round(at, m).get(i));
+    }
+
+    /** A turning by which the picks from a place on would be others without the seat behind that place. */
+    private static void roundFrom(int place) {
+        int next = (place + 1) % 1000;
+        int z = least(v -> isOfWorth(seated(v, 8, 8, 8), place, next));
+        SeatsRound x = new SeatsRound();
+        for (int k = 0; k < 3; k++) x.keeper(0, 8);
+        table(x, "p 0", 7, z);
+        for (int m : new int[] {place, next, (place + 999) % 1000}) dueRound(x, seated(z, 8, 8, 8), m);
+    }
+
+    private static boolean isOfWorth(int[] at, int place, int next) {
+        if (at[place] == NOT || at[next] == NOT) return false;
+        int[] without = at.clone();
+        without[next] = NOT;
+        return !round(at, place).equals(round(without, place));
+    }
+
+    private static void sumsThatWrap() {
+        for (int z : new int[] {LEAST, MOST, MOST - 104729, -1, 0}) {
+            SeatsRound x = new SeatsRound();
+            int[] strengths = {1, 8, 3, 2};
+            for (int s : strengths) x.keeper(0, s);
+            table(x, "p 1", 15, z);
+            for (int m : new int[] {0, 1, 499, 998, 999}) {
+                for (int i = 0; i < 4; i++) due("picked(0, " + m + ", " + i + ") by " + z, x.picked(0, m, i), sums(m, z, strengths).get(i));
             }
         }
     }
@@ -459,6 +517,20 @@ final class TableSentences extends Desk {
         table(x, "p 1", 3, 0);
         due("of equal STRENGTHS", x.picked(0, m, 0), 1);
         due("of twice the STRENGTH", x.picked(1, m, 0), 0);
+    }
+
+    private static void jumpsOverTheEnd() {
+        for (int many = 1; many <= 5; many++) {
+            int[] strengths = new int[many];
+            java.util.Arrays.fill(strengths, 2);
+            SeatsRound x = new SeatsRound();
+            for (int k = 0; k < many; k++) x.keeper(0, 2);
+            table(x, "p 2", (1 << many) - 1, 21);
+            for (int m : new int[] {0, 1, 333, 334, 666, 667, 668, 999}) {
+                for (int i = 0; i < many; i++) due("picked(0, " + m + ", " + i + ") of " + many, x.picked(0, m, i), jumps(seated(21, strengths), m).get(i));
+                due("no more", x.picked(0, m, many), BAD);
+            }
+        }
     }
 
     private static void pickedByJumps() {
@@ -587,6 +659,27 @@ final class TableSentences extends Desk {
         due("SHARE of the second", x.share(1, 1, 0), 40 - first);
         due("ODDS of the first", x.share(1, 0, 1), odds(at, 2)[0]);
         due("ODDS of the second", x.share(1, 1, 1), odds(at, 2)[1]);
+        oddsBySums();
+    }
+
+    private static void oddsBySums() {
+        // A sum of 0 is a sum: the one alone is the first one of every place.
+        int none = least(v -> sum(v % 1000, 1, v / 1000) == 0);
+        SeatsRound x = house(0, 0);
+        table(x, "p 1", 2, none / 1000);
+        due("ODDS of one alone by SUMS", x.share(0, 1, 1), 1000);
+        due("picked for the place with a sum of 0", x.picked(0, none % 1000, 0), 1);
+        // Of like sums the least number is the first one, in ODDS too.
+        int[] strengths = {1, 1, 3};
+        int z = least(v -> isTie(v % 1000, v / 1000, strengths)) / 1000;
+        SeatsRound y = new SeatsRound();
+        for (int s : strengths) y.keeper(0, s);
+        table(y, "p 1", 7, z);
+        for (int k = 0; k < 3; k++) {
+            int odds = 0;
+            for (int m = 0; m < 1000; m++) if (sums(m, z, strengths).get(0) == k) odds++;
+            due("ODDS of " + k + " by SUMS", y.share(0, k, 1), odds);
+        }
     }
 
     private static void shareRefused() {

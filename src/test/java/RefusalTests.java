@@ -62,7 +62,10 @@ public final class RefusalTests extends Desk {
         return x;
     }
 
-    /** Everything that an object answers, what can be read first, what can be read by changing it behind that. */
+    /**
+     * Everything that an object answers, what can be read first, what can be read by changing it behind that. It takes
+     * more than 512 calls, behind which the document promises nothing; this class goes on alike, and so must its twin.
+     */
     private static List<Long> story(SeatsRound x) {
         List<Long> s = new ArrayList<>();
         whatCanBeRead(x, s);

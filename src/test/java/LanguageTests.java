@@ -26,7 +26,9 @@ public final class LanguageTests {
         Path root = Path.of(args.length > 0 ? args[0] : ".");
         face(Files.readString(root.resolve("../shared/DOC.md")));
         classes();
-        text(Files.readString(root.resolve("src/main/java/SeatsRound.java")));
+        String source = Files.readString(root.resolve("src/main/java/SeatsRound.java"));
+        groups(Files.readString(root.resolve("../shared/DOC.md")), source);
+        text(source);
         System.out.println(wrong == 0 ? "the face and the language are as told" : wrong + " things are not as told");
         if (wrong != 0) System.exit(1);
     }
@@ -62,6 +64,23 @@ public final class LanguageTests {
         Constructor<?>[] makers = SeatsRound.class.getDeclaredConstructors();
         must(makers.length == 1 && Modifier.isPublic(makers[0].getModifiers()) && makers[0].getParameterCount() == 0, "the constructor");
         must(Modifier.isFinal(SeatsRound.class.getModifiers()), "the class is final");
+    }
+
+    /** "Ahead of the calls .. the interface says": each group's calls stand behind its line and ahead of the next one. */
+    private static void groups(String doc, String source) {
+        Matcher group = Pattern.compile("Ahead of the calls (.*) the interface says: (---- .*)\\.\n").matcher(doc);
+        int many = 0;
+        while (group.find()) {
+            many++;
+            int from = source.indexOf("// " + group.group(2) + "\n");
+            int to = source.indexOf("// ---- ", from + 1);
+            must(from >= 0, "a line that is missing: " + group.group(2));
+            if (from < 0) continue;
+            String part = source.substring(from, to < 0 ? source.length() : to);
+            Matcher call = Pattern.compile("`(\\w+)`").matcher(group.group(1));
+            while (call.find()) must(Pattern.compile("public (int|long) " + call.group(1) + "\\(").matcher(part).find(), call.group(1) + " is not behind " + group.group(2));
+        }
+        must(many == 5, "the document tells of " + many + " groups");
     }
 
     /** Rules 2, 5 and 11. */

@@ -166,7 +166,7 @@ public final class PromiseTests extends Desk {
         SeatsRound x = filledUp(8);
         x.become(1, 4);
         int z = 0, t = 1;
-        while (t < 9 && (x.keeperOf(t, 8, 0) != 1 || x.keeperOf(t, 9, 0) != 1 || x.keeperOf(t, 0, 0) != 1)) t = table(x, "c 1", 3, ++z);
+        while (t < 9 && z < 1000 && (x.keeperOf(t, 8, 0) != 1 || x.keeperOf(t, 9, 0) != 1 || x.keeperOf(t, 0, 0) != 1)) t = table(x, "c 1", 3, ++z);
         due("a table by which keeper 1 has them", x.keeperOf(t, 8, 0) * x.keeperOf(t, 9, 0) * x.keeperOf(t, 0, 0), 1);
         x.knows(0, t);
         due("kept for it", x.write(0, 8) + x.write(0, 9) + x.write(0, 0) + x.write(0, 9), 4);

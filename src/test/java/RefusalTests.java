@@ -166,7 +166,7 @@ public final class RefusalTests extends Desk {
     }
 
     private static void feedUpTo(SeatsRound x, int many) {
-        while (x.count(3) < many) x.feed(1, '1');
+        for (int had = x.count(3); had < many; had++) x.feed(1, '1');
     }
 
     private static void fillNames(SeatsRound x) {
